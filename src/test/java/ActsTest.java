@@ -1,0 +1,223 @@
+/** Promises 9 to 14, 45 and 46: acts, undo, image, restore. */
+final class ActsTest {
+    private static final Check CHECK = new Check();
+
+    public static void main(String[] args) {
+        days();
+        turn();
+        shut();
+        fill();
+        set();
+        undo();
+        image();
+        aDay();
+        CHECK.end("ActsTest");
+    }
+
+    private static void days() {
+        TurnPosts posts = Texts.of(Texts.SMALL);
+        CHECK.due("days(0)", posts.days(0), -1);
+        CHECK.due("days(21)", posts.days(21), -1);
+        CHECK.due("days(-1)", posts.days(-1), -1);
+        CHECK.due("count(13)", posts.count(13), 3);
+        CHECK.due("no act", posts.count(9), 0);
+        CHECK.due("days(2)", posts.days(2), 2);
+        CHECK.due("where 0 is", posts.person(0, 0), 0);
+        CHECK.due("0's purse", posts.person(0, 2), 4);
+        CHECK.due("where 1 is", posts.person(1, 0), 3);
+        CHECK.due("1's purse", posts.person(1, 2), 7);
+        CHECK.due("who is at home", posts.count(5), 6);
+        CHECK.due("one act", posts.count(9), 1);
+        CHECK.due("days(20)", posts.days(20), 22);
+        for (int i = 0; i < 498; i++) {
+            posts.days(20);
+        }
+        CHECK.due("the day", posts.count(2), 9982);
+        CHECK.due("days(18) beyond 9999", posts.days(18), -1);
+        CHECK.due("days(17) to 9999", posts.days(17), 9999);
+        CHECK.due("days(1) beyond 9999", posts.days(1), -1);
+    }
+
+    private static void turn() {
+        TurnPosts posts = Texts.of(Texts.SMALL);
+        CHECK.due("turn(0, 0)", posts.turn(0, 0), -1);
+        CHECK.due("refused", posts.count(13), 1);
+        CHECK.due("turn(0, 1)", posts.turn(0, 1), 0);
+        CHECK.due("crossing(0, 3)", posts.crossing(0, 3), 1);
+        CHECK.due("turn(0, 0) back", posts.turn(0, 0), 1);
+        CHECK.noSuch("turn(0, 2)", () -> posts.turn(0, 2));
+        CHECK.noSuch("turn(0, -1)", () -> posts.turn(0, -1));
+        CHECK.noSuch("turn(4, 0)", () -> posts.turn(4, 0));
+        CHECK.noSuch("turn(-1, 0)", () -> posts.turn(-1, 0));
+        CHECK.due("still one refused", posts.count(13), 1);
+        CHECK.due("two acts", posts.count(9), 2);
+    }
+
+    private static void shut() {
+        TurnPosts posts = Texts.of(Texts.SMALL);
+        CHECK.due("open that is open", posts.shut(0, 1, false), false);
+        CHECK.due("shut", posts.shut(0, 1, true), true);
+        CHECK.due("shut that is shut", posts.shut(0, 1, true), false);
+        CHECK.due("open", posts.shut(0, 1, false), true);
+        CHECK.due("refused", posts.count(13), 2);
+        CHECK.due("acts", posts.count(9), 2);
+        CHECK.noSuch("shut(0, 2)", () -> posts.shut(0, 2, true));
+        CHECK.noSuch("shut(4, 0)", () -> posts.shut(4, 0, true));
+        CHECK.noSuch("shut(-1, 0)", () -> posts.shut(-1, 0, false));
+    }
+
+    private static void fill() {
+        TurnPosts posts = Texts.of(Texts.SMALL);
+        CHECK.due("fill(0, 5)", posts.fill(0, 5), -1);
+        CHECK.due("fill(0, 100)", posts.fill(0, 100), -1);
+        CHECK.due("fill(0, -1)", posts.fill(0, -1), -1);
+        CHECK.due("refused", posts.count(13), 3);
+        CHECK.due("fill(0, 99)", posts.fill(0, 99), 5);
+        CHECK.due("fill(0, 0)", posts.fill(0, 0), 99);
+        CHECK.due("purses", posts.count(8), 9);
+        CHECK.noSuch("fill(3, 0)", () -> posts.fill(3, 0));
+        CHECK.noSuch("fill(-1, 500)", () -> posts.fill(-1, 500));
+    }
+
+    private static void set() {
+        TurnPosts posts = Texts.of(Texts.SMALL);
+        CHECK.due("set(0, 0)", posts.set(0, 0), -1);
+        CHECK.due("refused", posts.count(13), 1);
+        CHECK.due("set(0, 3)", posts.set(0, 3), 0);
+        CHECK.due("home", posts.count(5), 5);
+        CHECK.due("set(2, 0)", posts.set(2, 0), 1);
+        CHECK.due("home no more", posts.count(5), 1);
+        CHECK.noSuch("set(3, 0)", () -> posts.set(3, 0));
+        CHECK.noSuch("set(0, 4)", () -> posts.set(0, 4));
+        CHECK.noSuch("set(0, -1)", () -> posts.set(0, -1));
+    }
+
+    private static String all(TurnPosts posts) {
+        StringBuilder all = new StringBuilder();
+        for (int what = 2; what <= 8; what++) {
+            all.append(posts.count(what)).append(' ');
+        }
+        for (int crossing = 0; crossing < posts.count(0); crossing++) {
+            all.append(posts.crossing(crossing, 3)).append(' ').append(posts.crossing(crossing, 4)).append(' ');
+            for (int road = 0; road < posts.crossing(crossing, 2); road++) {
+                all.append(posts.road(crossing, road, 1));
+            }
+        }
+        for (int person = 0; person < posts.count(1); person++) {
+            all.append(' ').append(posts.person(person, 0)).append(' ').append(posts.person(person, 2));
+        }
+        return all.toString();
+    }
+
+    private static void act(TurnPosts posts, int i) {
+        switch (i % 5) {
+            case 0 -> posts.days(1 + i % 3);
+            case 1 -> posts.turn(0, 1 - posts.crossing(0, 3));
+            case 2 -> posts.shut(i % 2, 1, posts.road(i % 2, 1, 1) == 0);
+            case 3 -> posts.fill(i % 3, (posts.person(i % 3, 2) + 7) % 100);
+            default -> posts.set(i % 3, (posts.person(i % 3, 0) + 1) % 4);
+        }
+    }
+
+    private static void undo() {
+        TurnPosts posts = Texts.of(Texts.SMALL);
+        String[] before = new String[45];
+        for (int i = 0; i < 45; i++) {
+            before[i] = all(posts);
+            act(posts, i);
+            CHECK.due("acts kept", posts.count(9), Math.min(40, i + 1));
+        }
+        for (int i = 44; i >= 5; i--) {
+            CHECK.due("undo()", posts.undo(), i - 5);
+            CHECK.due("undone " + i, all(posts).equals(before[i]), true);
+        }
+        CHECK.due("undo() of none", posts.undo(), -1);
+        CHECK.due("the 40 latest alone", all(posts).equals(before[5]), true);
+        CHECK.due("undo is not refused by status", posts.count(13), 0);
+        posts.turn(0, 1 - posts.crossing(0, 3));
+        CHECK.due("undo() of one more", posts.undo(), 0);
+    }
+
+    private static void image() {
+        TurnPosts posts = Texts.of(Texts.SMALL);
+        CHECK.due("restore() of none", posts.restore(), false);
+        act(posts, 0);
+        act(posts, 1);
+        posts.see(1, 2, 3);
+        posts.image();
+        String then = all(posts);
+        for (int i = 2; i < 50; i++) {
+            act(posts, i);
+        }
+        posts.days(0);
+        posts.see(0, 0, 0);
+        posts.forget();
+        CHECK.due("restore()", posts.restore(), true);
+        CHECK.due("as the image", all(posts).equals(then), true);
+        CHECK.due("acts as the image", posts.count(9), 2);
+        CHECK.due("seen as the image", posts.count(10), 1);
+        CHECK.due("status stays", posts.count(13), 1);
+        act(posts, 7);
+        CHECK.due("restore() again", posts.restore(), true);
+        CHECK.due("as the image again", all(posts).equals(then), true);
+        CHECK.due("undo() behind it", posts.undo(), 1);
+        CHECK.due("undo() the first one", posts.undo(), 0);
+        CHECK.due("all as it began", all(posts).equals(all(Texts.of(Texts.SMALL))), true);
+        posts.image();
+        act(posts, 3);
+        CHECK.due("restore() of another one", posts.restore(), true);
+        CHECK.due("in place of the first", all(posts).equals(all(Texts.of(Texts.SMALL))), true);
+        Texts.read(posts, "crossing 0 0;");
+        CHECK.due("a new shire has none", posts.restore(), false);
+    }
+
+    /** What a day is: shut roads, purses, who heeds, the arm that turns all the same. */
+    private static void aDay() {
+        String two = "crossing 0 0;crossing 5 0;road 0 1;road 0 1;";
+        TurnPosts poor = Texts.of(two + "person 0 1 4;");
+        poor.days(1);
+        CHECK.due("too poor to go", poor.person(0, 0), 0);
+        CHECK.due("pays nothing", poor.person(0, 2), 4);
+        CHECK.due("turns the arm", poor.crossing(0, 3), 1);
+        TurnPosts rich = Texts.of(two + "person 0 1 5;");
+        rich.days(1);
+        CHECK.due("just enough", rich.person(0, 0), 1);
+        CHECK.due("pays all", rich.person(0, 2), 0);
+        TurnPosts shut = Texts.of(two + "person 0 1 50;");
+        shut.shut(0, 0, true);
+        shut.days(1);
+        CHECK.due("doesn't go by a shut road", shut.person(0, 0), 0);
+        CHECK.due("turns the arm from it", shut.crossing(0, 3), 1);
+        TurnPosts careless = Texts.of(two + "person 0 1 50;heeds 0;");
+        careless.days(1);
+        CHECK.due("who doesn't heed stays", careless.person(0, 0), 0);
+        CHECK.due("and turns nothing", careless.crossing(0, 3), 0);
+        CHECK.due("the day is one more", careless.count(2), 1);
+        TurnPosts home = Texts.of(two + "person 0 0 50;");
+        home.days(1);
+        CHECK.due("who is at home stays", home.person(0, 0), 0);
+        CHECK.due("and turns nothing", home.crossing(0, 3), 0);
+        TurnPosts row = Texts.of("crossing 0 0;crossing 0 0;crossing 0 0;road 0 1;road 0 2;"
+                + "person 0 1 0;person 0 1 0;person 0 1 0;");
+        row.days(1);
+        CHECK.due("the first goes to 1", row.person(0, 0), 1);
+        CHECK.due("the second to 2", row.person(1, 0), 2);
+        CHECK.due("the third to 1", row.person(2, 0), 1);
+        CHECK.due("the arm behind three", row.crossing(0, 3), 1);
+        TurnPosts seesOthers = Texts.of("crossing 0 0;crossing 0 0;road 0 1;person 0 1 0;person 0 1 0;person 0 0 0;heeds with < 2;");
+        seesOthers.days(1);
+        CHECK.due("two others: stays", seesOthers.person(0, 0), 0);
+        CHECK.due("the second, too", seesOthers.person(1, 0), 0);
+        TurnPosts byDay = Texts.of("crossing 0 0;crossing 0 0;road 0 1;person 0 1 0;heeds day = 3;");
+        byDay.days(3);
+        CHECK.due("not up to day 3", byDay.person(0, 0), 0);
+        byDay.days(1);
+        CHECK.due("on day 3", byDay.person(0, 0), 1);
+        TurnPosts going = Texts.of("crossing 0 0;crossing 0 0;road 0 1;person 0 1 0;person 0 1 0;heeds with = 0;");
+        going.days(1);
+        CHECK.due("with one other: stays", going.count(5), 0);
+        TurnPosts oneByOne = Texts.of("crossing 0 0;crossing 0 0;road 0 1;person 0 1 9;person 0 1 0;heeds with = 0 or purse = 9;");
+        oneByOne.days(1);
+        CHECK.due("the second sees that the first has gone", oneByOne.count(5), 3);
+    }
+}
