@@ -167,6 +167,20 @@ final class ActsTest {
         act(posts, 3);
         CHECK.due("restore() of another one", posts.restore(), true);
         CHECK.due("in place of the first", all(posts).equals(all(Texts.of(Texts.SMALL))), true);
+        posts.forget();
+        posts.see(0, 1, 1);
+        posts.image();
+        posts.forget();
+        posts.see(1, 0, 20);
+        CHECK.due("seen what isn't so", posts.turned(2), 0);
+        posts.restore();
+        CHECK.due("seen what is so, as the image", posts.turned(2), 1);
+        posts.see(1, 0, 20);
+        posts.image();
+        posts.forget();
+        posts.see(0, 1, 1);
+        posts.restore();
+        CHECK.due("seen what isn't so, as the image", posts.turned(2), 0);
         Texts.read(posts, "crossing 0 0;");
         CHECK.due("a new shire has none", posts.restore(), false);
     }

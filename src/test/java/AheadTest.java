@@ -126,6 +126,14 @@ final class AheadTest {
         CHECK.due("busiest of 1", posts.later(1, 2), 1);
         CHECK.due("busiest of 4", posts.later(4, 2), 1);
         CHECK.due("busiest of 100", posts.later(100, 2), 3);
+        CHECK.due("busiest of 1 again", posts.later(1, 2), 1);
+        TurnPosts oneDay = Texts.of(PAIR + "road 1 0;crossing 0 0;person 0 2 0;person 1 2 0;person 0 0 0;");
+        CHECK.due("at the ends of days, not now", oneDay.later(1, 2), 0);
+        TurnPosts there = Texts.of(RING + "person 0 3 0;");
+        CHECK.due("not beyond these days", there.later(1, 2), 1);
+        CHECK.due("the least of two days", there.later(2, 2), 1);
+        CHECK.due("the least of three days", there.later(3, 2), 0);
+        CHECK.due("poorest with 99", Texts.of(PAIR + "person 0 1 99;").later(0, 1), 0);
         TurnPosts like = Texts.of("crossing 0 0;crossing 0 0;crossing 0 0;person 2 2 0;person 1 1 0;");
         CHECK.due("busiest of like ones", like.later(5, 2), 1);
         CHECK.due("nobody is busy", Texts.of(PAIR).later(5, 2), -1);
@@ -172,6 +180,8 @@ final class AheadTest {
         String late = "crossing 0 0;crossing 0 0;crossing 0 0;road 0 2;road 0 1;person 0 1 0;turns 0;heeds day = ";
         CHECK.due("within 60 days", Texts.of(late + "59;").best(0), 1);
         CHECK.due("not within 60 days", Texts.of(late + "60;").best(0), -1);
+        TurnPosts road0 = Texts.of("crossing 0 0;crossing 0 0;crossing 0 0;road 0 1;road 0 2;arm 0 1;person 0 1 0;turns 0;");
+        CHECK.due("road 0 of crossing 0", road0.best(0), 0);
         CHECK.noSuch("best(3)", () -> posts.best(3));
         CHECK.noSuch("best(-1)", () -> posts.best(-1));
     }
@@ -292,6 +302,8 @@ final class AheadTest {
         CHECK.due("nor a first", row.cuts(0, 1), -1);
         CHECK.due("within 60 days", lateGoer(59).cuts(0, 0), 1);
         CHECK.due("not within 60 days", lateGoer(60).cuts(0, 0), 0);
+        TurnPosts just = Texts.of(PAIR + "road 1 0;person 0 1 0;heeds day = 59;");
+        CHECK.due("home behind 60 days all the same", just.cuts(0, 0), 1);
         TurnPosts ends = Texts.of("crossing 0 0;crossing 0 0;crossing 0 0;road 2 1;road 2 0;person 2 0 0;turns 0;arm 2 1;");
         CHECK.due("a later road", ends.cuts(0, 1), 21);
         CHECK.due("what is shut already is none", shutThenCuts(ends), 1);

@@ -5,6 +5,7 @@ final class ChanceTest {
     public static void main(String[] args) {
         wind();
         game();
+        gains();
         years();
         CHECK.end("ChanceTest");
     }
@@ -53,6 +54,30 @@ final class ChanceTest {
         TurnPosts both = Texts.of("crossing 0 0;crossing 9 0;crossing 0 0;road 0 1;road 0 2;person 0 2 0;person 0 2 0;turns 0;");
         CHECK.due("either one of two", both.game(0, 1, 0), 2);
         CHECK.due("the other one first", both.game(0, 1, 1), 1);
+    }
+
+    /** What a day at home, a step and a turn are worth; the other one stands where no road is. */
+    private static void gains() {
+        String stuck = "person 2 0 0;turns 0;";
+        String fork = "crossing 0 0;crossing 0 0;crossing 0 0;crossing 9 0;";
+        // Down road 0 one step that helps nothing; road 1 is too dear. To turn saves the step and costs 1.
+        TurnPosts like = Texts.of(fork + "road 0 1;road 0 3;person 0 3 0;" + stuck);
+        CHECK.due("both are alike", like.game(0, 1, 0), 2);
+        CHECK.due("alike: not to turn first", like.game(0, 1, 1), 0);
+        CHECK.due("alike for the other one", like.game(1, 0, 0), 2);
+        // Home on the last of 8 days is worth 3 - 1 - 1, on the day behind it nothing.
+        String late = fork + "road 0 3;road 0 1;person 0 1 0;" + stuck + "heeds day = ";
+        CHECK.due("home on the 8th day", Texts.of(late + "7;").game(0, 1, 1), 10);
+        CHECK.due("home on the 9th day", Texts.of(late + "8;").game(0, 1, 1), 0);
+        CHECK.due("the 9th day of the other one", Texts.of(late + "8;").game(1, 0, 1), 0);
+        CHECK.due("the 8th day of the other one", Texts.of(late + "7;").game(1, 0, 1), 1);
+        // Home on the 8th day by road 0, and by road 1 after a turn: 1 is lost, nothing gained.
+        TurnPosts both = Texts.of(fork + "road 0 1;road 0 1;person 0 1 0;" + stuck + "heeds day = 7;");
+        CHECK.due("one road as good", both.game(0, 1, 0), 1);
+        CHECK.due("one road as good: 0", both.game(0, 1, 1), 0);
+        // By road 0 eight steps there and back, by road 1, which is too dear, none: a turn's 1 against 8.
+        TurnPosts steps = Texts.of(fork + "road 0 1;road 0 3;road 1 0;person 0 3 0;" + stuck);
+        CHECK.due("steps lose", steps.game(0, 1, 1), 10);
     }
 
     /** The seed's row of draws, by longs. */

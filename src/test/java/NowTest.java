@@ -33,6 +33,9 @@ final class NowTest {
         CHECK.due("road(1, 0, 1)", posts.road(1, 0, 1), 0);
         CHECK.due("count(3) counts what is shut, too", posts.count(3), 6);
         CHECK.due("count(4)", posts.count(4), 1);
+        posts.shut(0, 0, true);
+        posts.shut(3, 0, true);
+        CHECK.due("count(4) of all", posts.count(4), 3);
         CHECK.due("crossing(1, 2) counts what is shut, too", posts.crossing(1, 2), 2);
         CHECK.noSuch("road(1, 2, 0)", () -> posts.road(1, 2, 0));
         CHECK.noSuch("road(1, -1, 0)", () -> posts.road(1, -1, 0));
@@ -78,6 +81,13 @@ final class NowTest {
         CHECK.due("whatever is shut needs no watch", ring.count(7), 3);
         TurnPosts pair = Texts.of("crossing 0 0;crossing 0 0;road 1 0;");
         CHECK.due("of as few the least", pair.count(7), 1);
+        StringBuilder all = new StringBuilder("crossing 0 0;".repeat(9));
+        for (int from = 0; from < 9; from++) {
+            for (int on = 1; on <= 4; on++) {
+                all.append("road ").append(from).append(' ').append((from + on) % 9).append(';');
+            }
+        }
+        CHECK.due("eight watch all of nine", Texts.of(all.toString()).count(7), 255);
         CHECK.due("no roads, no watch", Texts.of("crossing 0 0;crossing 0 0;").count(7), 0);
     }
 }

@@ -54,6 +54,14 @@ final class SeenTest {
         CHECK.due("behind 20 days", last.turned(2), 1);
         last.see(0, 1, 19);
         CHECK.due("not behind 19", last.turned(2), 0);
+        // Arms turn in the days that are looked at: down road 0 to 1 and back, then down road 1 to 2.
+        TurnPosts turns = Texts.of("crossing 0 0;crossing 0 0;crossing 0 0;road 0 1;road 0 2;road 1 0;person 0 2 0;");
+        turns.see(0, 1, 1);
+        turns.see(0, 2, 3);
+        CHECK.due("arms turn all the while", turns.turned(2), 1);
+        turns.forget();
+        turns.see(0, 2, 1);
+        CHECK.due("the other road first", turns.turned(1), 1);
     }
 
     private static void look() {
@@ -74,6 +82,12 @@ final class SeenTest {
         CHECK.due("one place", fork.look(1), 1);
         CHECK.due("nobody", Texts.of("crossing 0 0;crossing 0 0;road 0 1;road 0 1;").look(0), -1);
         CHECK.due("nobody: 0", Texts.of("crossing 0 0;crossing 0 0;road 0 1;road 0 1;").look(1), 0);
+        // Behind 6 days from now, not from what is seen: on day 8 both are at 1.
+        TurnPosts fromNow = Texts.of("crossing 0 0;".repeat(4) + "road 0 1;road 0 2;road 0 3;road 2 1;road 3 1;"
+                + "person 0 1 0;turns 0;heeds (roads = 3) + (day = 7);");
+        fromNow.see(0, 1, 8);
+        CHECK.due("two by which one is at 1", fromNow.turned(0), 2);
+        CHECK.due("at two ahead of that", fromNow.look(1), 2);
         String six = "crossing 0 0;crossing 0 0;crossing 0 0;road 0 1;road 0 2;road 0 1;person 0 0 0;person 0 1 0;turns 0;heeds day = ";
         CHECK.due("behind 6 days", Texts.of(six + "5;").look(0), 1);
         CHECK.due("behind 7 days", Texts.of(six + "6;").look(0), 0);

@@ -7,6 +7,7 @@ final class TextTest {
         newObject();
         feed();
         shire();
+        anew();
         lines();
         expressions();
         depth();
@@ -81,6 +82,11 @@ final class TextTest {
         posts.see(0, 0, -1);
         CHECK.due("the first bytes alone", readFirst(posts, "crossing 3 1;crossing 0 x", 13), 0);
         CHECK.due("no fault", posts.fault(), -1);
+        TurnPosts cut = new TurnPosts();
+        CHECK.due("a number is cut", readFirst(cut, "crossing 0 123;", 12), 1);
+        CHECK.due("where the text ends", cut.fault(), 12);
+        CHECK.due("a word is cut", readFirst(cut, "heeds 1;turnsx", 13), 1);
+        CHECK.due("where that text ends", cut.fault(), 13);
         CHECK.due("one crossing", posts.count(0), 1);
         CHECK.due("nobody", posts.count(1), 0);
         CHECK.due("day 0", posts.count(2), 0);
@@ -94,6 +100,23 @@ final class TextTest {
         CHECK.due("sights refused", posts.count(14), 1);
         CHECK.due("shire(0)", posts.shire(0), 0);
         CHECK.due("all gone", posts.count(0), 0);
+    }
+
+    /** Nothing of an earlier text is left in a later one. */
+    private static void anew() {
+        TurnPosts posts = new TurnPosts();
+        String full = "crossing 9 1;crossing 9 1;road 0 1;road 0 1;road 1 0;arm 0 1;person 0 1 99;person 1 0 98;heeds 0;turns 0;";
+        Texts.read(posts, full);
+        Texts.read(posts, full);
+        Texts.read(posts, full + "x");
+        CHECK.due("a bare one", Texts.read(posts, "crossing 0 0;crossing 0 0;road 0 1;road 0 1;person 0 1 0;"), 0);
+        CHECK.due("arm", posts.crossing(0, 3), 0);
+        CHECK.due("roads", posts.count(3), 2);
+        CHECK.due("people", posts.count(1), 1);
+        CHECK.due("purses", posts.count(8), 0);
+        CHECK.due("goes without heeds", posts.then(0, 1, 0), 1);
+        CHECK.due("turns by 1", posts.points(0, 1), 1);
+        CHECK.due("an arm may be told again", Texts.read(posts, full), 0);
     }
 
     private static int readFirst(TurnPosts posts, String text, int n) {
@@ -110,6 +133,8 @@ final class TextTest {
         fault("\tcrossing 0 0;", 1, 0);
         fault("Crossing 0 0;", 1, 0);
         fault("crossings 0 0;", 1, 0);
+        fault("frossing 0 0;", 1, 0);
+        fault("crossinh 0 0;", 1, 0);
         fault("12345 0 0;", 1, 0);
         fault(";", 1, 0);
         fault("crossing 0 0", 1, 12);
@@ -187,6 +212,8 @@ final class TextTest {
         fault("heeds (1", 1, 8);
         fine("turns arm+roads-purse*with/day;");
         fault("turns arms;", 3, 6);
+        fault("turns bay;", 3, 6);
+        fine("turns " + "1+".repeat(346) + "1;");
     }
 
     private static void depth() {

@@ -64,6 +64,19 @@ final class WaysTest {
         shut.shut(0, 1, true);
         shut.shut(1, 1, true);
         beds("by open roads", shut, 1, 0, 0, -1, -1);
+        TurnPosts used = Texts.of("crossing 9 1;crossing 9 1;road 0 1;road 1 0;person 0 0 0;person 1 0 0;person 1 1 0;person 0 0 0;");
+        CHECK.due("a tour ahead", used.tour(0), 18);
+        CHECK.due("a walk ahead", used.walk(0, 1), 1);
+        beds("whatever was asked ahead", used, 2, 0, 0, 1, -1, -1);
+        TurnPosts four = Texts.of("crossing 9 1;crossing 9 1;crossing 9 1;crossing 9 1;road 0 1;road 1 2;road 2 3;road 3 0;"
+                + "person 0 0 0;person 0 0 0;person 0 0 0;person 0 0 0;person 0 0 0;");
+        CHECK.due("a tour of four ahead", four.tour(0), 36);
+        beds("all beds taken", four, 4, 54, 0, 1, 2, 3, -1);
+        TurnPosts many = Texts.of("crossing 0 1;".repeat(9) + "person 0 0 0;person 1 0 0;person 2 0 0;person 3 0 0;person 4 0 0;person 5 0 0;"
+                + "person 6 0 0;person 7 0 0;");
+        beds("each where one is", many, 8, 0, 0, 1, 2, 3, 4, 5, 6, 7);
+        Texts.read(many, "crossing 9 1;crossing 9 1;road 0 1;road 1 0;person 0 0 0;person 0 0 0;person 1 0 0;person 1 0 0;");
+        beds("another shire", many, 2, 0, 0, -1, 1, -1);
         CHECK.noSuch("lodged(2)", () -> small().lodged(2));
         CHECK.noSuch("lodged(-1)", () -> small().lodged(-1));
         beds("eight in nine beds", Texts.of("crossing 1 1;".repeat(9) + "road 0 1;road 1 2;road 2 3;road 3 4;road 4 5;road 5 6;road 6 7;road 7 8;"
