@@ -1885,8 +1885,8 @@ public final class TurnPosts {
 
         /** within: how many other expressions stand round this one. */
         private boolean readExpr(int within) {
-            if (within >= MOST_WITHIN && canBegin()) {
-                return fail(TOO_MUCH);
+            if (within >= MOST_WITHIN) {
+                return fail(canBegin() ? TOO_MUCH : CANNOT_STAND);
             }
             boolean reads = readAnd(within);
             for (int i = 0; i < MOST_BYTES && reads && tokens.isWord("or"); i++) {

@@ -1,4 +1,5 @@
 import java.util.NoSuchElementException;
+import java.util.function.IntSupplier;
 
 /** Counts what isn't as due; a test ends with exit code 1 if there was any. */
 final class Check {
@@ -22,6 +23,38 @@ final class Check {
 
     void illegal(String call, Runnable run) {
         thrown(call, run, IllegalArgumentException.class);
+    }
+
+    /** A call that throws changes nothing, no STATUS either. */
+    void noSuchAndStays(String call, TurnPosts posts, Runnable run) {
+        String all = Texts.state(posts) + Texts.status(posts);
+        noSuch(call, run);
+        same(call + " changes nothing", Texts.state(posts) + Texts.status(posts), all);
+    }
+
+    void illegalAndStays(String call, TurnPosts posts, Runnable run) {
+        String all = Texts.state(posts) + Texts.status(posts);
+        illegal(call, run);
+        same(call + " changes nothing", Texts.state(posts) + Texts.status(posts), all);
+    }
+
+    /** A call that is refused answers NONE (false: 0), counts one in its STATUS, and changes nothing else. */
+    void refused(String call, TurnPosts posts, int status, IntSupplier run) {
+        String all = Texts.state(posts);
+        int[] counts = {posts.count(12), posts.count(13), posts.count(14)};
+        int got = run.getAsInt();
+        due(call + " is refused", got == 0 || got == -1, true);
+        for (int i = 0; i < 3; i++) {
+            due(call + ": STATUS " + i, posts.count(12 + i), counts[i] + (i == status ? 1 : 0));
+        }
+        same(call + " changes nothing", Texts.state(posts), all);
+    }
+
+    void same(String call, String got, String want) {
+        asked++;
+        if (!got.equals(want)) {
+            wrong(call + ": " + got + ", due is " + want);
+        }
     }
 
     private void thrown(String call, Runnable run, Class<?> want) {

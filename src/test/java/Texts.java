@@ -7,6 +7,9 @@ final class Texts {
             + "road 0 1;road 0 2;road 1 0;road 2 3;road 1 3;road 3 2;"
             + "person 0 3 5;person 0 3 9;person 1 1 0;";
 
+    /** As much as a text can tell: 9 crossings of toll 9, 5 roads from each to the next one round, 8 people, who go home by 8 steps. */
+    static final String FULL = full();
+
     private Texts() {
     }
 
@@ -37,5 +40,35 @@ final class Texts {
             throw new IllegalStateException("fault " + fault + " at " + posts.fault() + " of " + text);
         }
         return posts;
+    }
+
+    private static String full() {
+        StringBuilder text = new StringBuilder("crossing 9 1;".repeat(9));
+        for (int crossing = 0; crossing < 9; crossing++) {
+            text.append(("road " + crossing + " " + (crossing + 1) % 9 + ";").repeat(5));
+        }
+        return text.append("person 0 8 99;".repeat(8)).toString();
+    }
+
+    /** All that can be seen of an object's state but for STATUS. */
+    static String state(TurnPosts posts) {
+        StringBuilder all = new StringBuilder("fault " + posts.fault());
+        for (int what = 0; what <= 11; what++) {
+            all.append(' ').append(posts.count(what));
+        }
+        for (int crossing = 0; crossing < posts.count(0); crossing++) {
+            all.append(" | ").append(posts.crossing(crossing, 3)).append(' ').append(posts.crossing(crossing, 4)).append(' ');
+            for (int road = 0; road < posts.crossing(crossing, 2); road++) {
+                all.append(posts.road(crossing, road, 1));
+            }
+        }
+        for (int person = 0; person < posts.count(1); person++) {
+            all.append(" / ").append(posts.person(person, 0)).append(' ').append(posts.person(person, 2));
+        }
+        return all.toString();
+    }
+
+    static String status(TurnPosts posts) {
+        return " status " + posts.count(12) + " " + posts.count(13) + " " + posts.count(14);
     }
 }
