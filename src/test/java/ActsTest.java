@@ -29,13 +29,6 @@ final class ActsTest {
         CHECK.due("who is at home", posts.count(5), 6);
         CHECK.due("one act", posts.count(9), 1);
         CHECK.due("days(20)", posts.days(20), 22);
-        for (int i = 0; i < 498; i++) {
-            posts.days(20);
-        }
-        CHECK.due("the day", posts.count(2), 9982);
-        CHECK.due("days(18) beyond 9999", posts.days(18), -1);
-        CHECK.due("days(17) to 9999", posts.days(17), 9999);
-        CHECK.due("days(1) beyond 9999", posts.days(1), -1);
     }
 
     private static void turn() {
@@ -92,23 +85,6 @@ final class ActsTest {
         CHECK.noSuch("set(0, -1)", () -> posts.set(0, -1));
     }
 
-    private static String all(TurnPosts posts) {
-        StringBuilder all = new StringBuilder();
-        for (int what = 2; what <= 8; what++) {
-            all.append(posts.count(what)).append(' ');
-        }
-        for (int crossing = 0; crossing < posts.count(0); crossing++) {
-            all.append(posts.crossing(crossing, 3)).append(' ').append(posts.crossing(crossing, 4)).append(' ');
-            for (int road = 0; road < posts.crossing(crossing, 2); road++) {
-                all.append(posts.road(crossing, road, 1));
-            }
-        }
-        for (int person = 0; person < posts.count(1); person++) {
-            all.append(' ').append(posts.person(person, 0)).append(' ').append(posts.person(person, 2));
-        }
-        return all.toString();
-    }
-
     private static void act(TurnPosts posts, int i) {
         switch (i % 5) {
             case 0 -> posts.days(1 + i % 3);
@@ -119,23 +95,35 @@ final class ActsTest {
         }
     }
 
+    /** Of all states those ahead of act 5, 25 and 44 are looked at: each look takes many of the 512 calls. */
     private static void undo() {
         TurnPosts posts = Texts.of(Texts.SMALL);
         String[] before = new String[45];
         for (int i = 0; i < 45; i++) {
-            before[i] = all(posts);
+            if (i == 5 || i == 25 || i == 44) {
+                before[i] = shown(posts);
+            }
             act(posts, i);
-            CHECK.due("acts kept", posts.count(9), Math.min(40, i + 1));
         }
+        CHECK.due("acts kept", posts.count(9), 40);
         for (int i = 44; i >= 5; i--) {
             CHECK.due("undo()", posts.undo(), i - 5);
-            CHECK.due("undone " + i, all(posts).equals(before[i]), true);
+            if (before[i] != null) {
+                CHECK.same("undone " + i, shown(posts), before[i]);
+            }
         }
         CHECK.due("undo() of none", posts.undo(), -1);
-        CHECK.due("the 40 latest alone", all(posts).equals(before[5]), true);
         CHECK.due("undo is not refused by status", posts.count(13), 0);
         posts.turn(0, 1 - posts.crossing(0, 3));
         CHECK.due("undo() of one more", posts.undo(), 0);
+    }
+
+    /** The state but for how many acts are kept, and how much is seen. */
+    private static String shown(TurnPosts posts) {
+        String[] parts = Texts.state(posts).split(" ");
+        parts[11] = "acts";
+        parts[12] = "seen";
+        return String.join(" ", parts);
     }
 
     private static void image() {
@@ -145,7 +133,7 @@ final class ActsTest {
         act(posts, 1);
         posts.see(1, 2, 3);
         posts.image();
-        String then = all(posts);
+        String then = shown(posts);
         for (int i = 2; i < 50; i++) {
             act(posts, i);
         }
@@ -153,20 +141,20 @@ final class ActsTest {
         posts.see(0, 0, 0);
         posts.forget();
         CHECK.due("restore()", posts.restore(), true);
-        CHECK.due("as the image", all(posts).equals(then), true);
+        CHECK.due("as the image", shown(posts).equals(then), true);
         CHECK.due("acts as the image", posts.count(9), 2);
         CHECK.due("seen as the image", posts.count(10), 1);
         CHECK.due("status stays", posts.count(13), 1);
         act(posts, 7);
         CHECK.due("restore() again", posts.restore(), true);
-        CHECK.due("as the image again", all(posts).equals(then), true);
+        CHECK.due("as the image again", shown(posts).equals(then), true);
         CHECK.due("undo() behind it", posts.undo(), 1);
         CHECK.due("undo() the first one", posts.undo(), 0);
-        CHECK.due("all as it began", all(posts).equals(all(Texts.of(Texts.SMALL))), true);
+        CHECK.due("all as it began", shown(posts).equals(shown(Texts.of(Texts.SMALL))), true);
         posts.image();
         act(posts, 3);
         CHECK.due("restore() of another one", posts.restore(), true);
-        CHECK.due("in place of the first", all(posts).equals(all(Texts.of(Texts.SMALL))), true);
+        CHECK.due("in place of the first", shown(posts).equals(shown(Texts.of(Texts.SMALL))), true);
         posts.forget();
         posts.see(0, 1, 1);
         posts.image();

@@ -20,6 +20,7 @@ final class EdgesOfChanceTest {
         game();
         gains();
         yearsArguments();
+        yearsOfEight();
         years();
         CHECK.end("EdgesOfChanceTest");
     }
@@ -275,6 +276,13 @@ final class EdgesOfChanceTest {
     private static void rest(String name, TurnPosts posts, int many, int first) {
         CHECK.due(name + ": how many", posts.game(0, 1, 0), many);
         CHECK.due(name + ": the first", posts.game(0, 1, 1), first);
+        CHECK.due(name + ": how many the other way round", posts.game(1, 0, 0), many);
+    }
+
+    /** Person 0 of two is the only one to whom it matters: the same choice, told as the first one's and as the other one's. */
+    private static void restOfOne(String name, TurnPosts posts, int many, int first) {
+        rest(name, posts, many, first);
+        CHECK.due(name + ": as the other one", posts.game(1, 0, 1), first / 10);
     }
 
     private static void game() {
@@ -304,20 +312,19 @@ final class EdgesOfChanceTest {
     private static void gains() {
         String still = "person 2 0 0;turns 0;";
         String road = FOUR + "road 0 3;road 0 1;person 0 1 0;" + still;
-        rest("home on the 8th day: 3 - 1 - 1", Texts.of(road + "heeds day = 7;"), 1, 10);
-        rest("home on the 9th day", Texts.of(road + "heeds day = 8;"), 1, 0);
+        restOfOne("home on the 8th day: 3 - 1 - 1", Texts.of(road + "heeds day = 7;"), 1, 10);
+        restOfOne("home on the 9th day", Texts.of(road + "heeds day = 8;"), 1, 0);
         // Two steps to be home on the 8th day: 3 - 2 - 1 is as good as nothing.
         String two = "crossing 0 0;".repeat(4) + "crossing 9 0;road 0 4;road 0 3;road 3 1;person 0 1 0;" + still;
-        rest("two steps for one day", Texts.of(two + "heeds 5 < day;"), 2, 0);
-        rest("two steps for two days", Texts.of(two + "heeds 4 < day;"), 1, 10);
+        restOfOne("two steps for one day", Texts.of(two + "heeds 5 < day;"), 2, 0);
+        restOfOne("two steps for two days", Texts.of(two + "heeds 4 < day;"), 1, 10);
         // Three steps for one day: 3 - 3 - 1 is worse than nothing.
         String three = "crossing 0 0;".repeat(5) + "crossing 9 0;road 0 5;road 0 3;road 3 4;road 4 1;person 0 1 0;" + still;
-        rest("three steps for one day", Texts.of(three + "heeds 4 < day;"), 1, 0);
-        rest("three steps for two days", Texts.of(three + "heeds 3 < day;"), 1, 10);
+        restOfOne("three steps for one day", Texts.of(three + "heeds 4 < day;"), 1, 0);
+        restOfOne("three steps for two days", Texts.of(three + "heeds 3 < day;"), 1, 10);
         // To be home a day sooner by one step fewer is 4, less 1.
         TurnPosts sooner = Texts.of(FOUR + "road 0 3;road 0 1;road 3 1;person 0 1 99;" + still);
-        rest("a day sooner", sooner, 1, 10);
-        CHECK.due("the other one's turn", sooner.game(1, 0, 1), 1);
+        restOfOne("a day sooner", sooner, 1, 10);
     }
 
     // ---- promise 31
@@ -360,6 +367,24 @@ final class EdgesOfChanceTest {
             seed = (int) (seed * 1103515245L + 12345L);
             return (int) ((seed & 0xffffffffL) % 0x80000000L / 0x10000L % n);
         }
+    }
+
+    /** Days ahead of which nothing is turned or set: all of eight go their way, and all of nine arms stay as they were. */
+    private static void yearsOfEight() {
+        TurnPosts posts = Texts.of(Texts.FULL);
+        CHECK.due("no days: steps of eight", posts.years(3, 0, 0), 0);
+        CHECK.due("no days: home of eight", posts.years(3, 0, 1), 0);
+        CHECK.due("no days: purses of eight", posts.years(3, 0, 2), 792);
+        int quiet = 0;
+        for (int seed = 0; seed < 40; seed++) {
+            if (new Row(seed).draw(5) > 1) {
+                quiet++;
+                CHECK.due("one day: steps of eight by " + seed, posts.years(seed, 1, 0), 8);
+                CHECK.due("one day: home of eight by " + seed, posts.years(seed, 1, 1), 0);
+                CHECK.due("one day: purses of eight by " + seed, posts.years(seed, 1, 2), 720);
+            }
+        }
+        CHECK.due("some days are quiet", quiet > 5, true);
     }
 
     private static void years() {

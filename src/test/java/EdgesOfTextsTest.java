@@ -125,31 +125,31 @@ final class EdgesOfTextsTest {
         }
     }
 
-    /** In the place of each token of each line every sort of token that can't stand there. */
-    private static void wrongTokens() {
-        for (String[] line : LINES) {
-            String[] tokens = line[1].split(" ");
-            for (int i = 0; i < tokens.length; i++) {
-                String ahead = line[0];
-                for (int k = 0; k < i; k++) {
-                    ahead += tokens[k] + " ";
-                }
-                for (String wrong : "; ) + - * / < = $ A".split(" ")) {
-                    if (!wrong.equals(tokens[i]) && !(tokens[i].equals(";") && line[1].contains("9999") && !wrong.matches("[)$A]"))
-                            && !(tokens[i].matches("[;)]") && line[1].contains("arm )") && wrong.matches("[-+*/<=]"))) {
-                        fault(ahead + wrong, 1, ahead.length());
-                    }
-                }
-                boolean part = i > 0 && (line[1].startsWith("heeds") && i == 1 || line[1].startsWith("turns") && i <= 2);
-                if (!part) {
-                    fault(ahead + "foo", 1, ahead.length());
-                    fault(ahead + "(", 1, ahead.length());
-                }
-                if (i == 0 || tokens[i].equals(";")) {
-                    fault(ahead + "7", 1, ahead.length());
-                    fault(ahead + "12345", 1, ahead.length());
-                }
+    /** Each of some tokens, behind a text that is fine so far, can't stand there. */
+    private static void wrong(String ahead, String... rows) {
+        for (String row : rows) {
+            for (String token : row.split(" ")) {
+                fault(ahead + token, 1, ahead.length());
             }
+        }
+    }
+
+    private static void wrongTokens() {
+        String signs = "( ) + - * / < = $ A";
+        String noWords = "foo 7 12345";
+        wrong("", "; arms Crossing not or and with", signs, noWords);
+        wrong("crossing 0 0;", ";", signs, noWords);
+        for (String ahead : new String[] {"crossing ", "crossing 0 ", TWO + "road ", TWO + "road 0 ", TWO + "person ", TWO + "person 0 ",
+            TWO + "person 0 0 ", TWO + "road 0 1;arm ", TWO + "road 0 1;arm 0 "}) {
+            wrong(ahead, "; foo arm crossing", signs);
+        }
+        for (String ahead : new String[] {"crossing 0 0 ", TWO + "road 0 1 ", TWO + "person 0 0 0 ", TWO + "road 0 1;arm 0 0 "}) {
+            wrong(ahead, "crossing road", signs, noWords);
+        }
+        for (String ahead : new String[] {"", "(", "((((("}) {
+            wrong("heeds " + ahead, "; ) + - * / < = $ A");
+            wrong("heeds " + ahead + "7 ", ahead.isEmpty() ? ")" : ";", "( $ A crossing not with", noWords);
+            wrong("heeds " + ahead + "arm ", ahead.isEmpty() ? ")" : ";", "( $ A crossing not with", noWords);
         }
         fault("heeds 1 and;", 1, 11);
         fault("heeds 1 or;", 1, 10);

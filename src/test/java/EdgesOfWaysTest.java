@@ -244,6 +244,9 @@ final class EdgesOfWaysTest {
         for (int from = 0; from < 9; from++) {
             CHECK.due("the rest of the row", row.walk(from, 1), 8 - from);
         }
+        TurnPosts lodging = Texts.of("crossing 0 1;" + crossings(8, 0) + ROW + "person 0 0 0;");
+        CHECK.due("a bed is asked ahead", lodging.lodged(0), 1);
+        CHECK.due("no walk from the last all the same", lodging.walk(8, 1), 0);
         CHECK.due("not back to where one begins", Texts.of(TWO + "road 0 1;road 1 0;").walk(0, 1), 1);
         // Of 0, 1, 2 in either order only one goes on to 3.
         String both = crossings(4, 0) + "road 0 1;road 0 2;road 1 2;road 2 1;";
@@ -294,6 +297,8 @@ final class EdgesOfWaysTest {
         }
         // Not beginning at 0 alone: 1 isn't come to.
         CHECK.due("one that isn't come to", Texts.of(THREE + "road 0 2;road 2 0;road 1 0;").tour(0), -1);
+        CHECK.due("the last of nine isn't come to", Texts.of(crossings(9, 1) + ROW.replace("road 7 8;", "road 7 0;road 8 0;")).tour(0), -1);
+        CHECK.due("from the last of nine one doesn't go on", Texts.of(crossings(9, 1) + ROW + "road 7 0;").tour(0), -1);
         // Ring of nine in another order: 0 4 8 3 7 2 6 1 5.
         StringBuilder ring = new StringBuilder(crossings(9, 1));
         for (int i = 0; i < 9; i++) {

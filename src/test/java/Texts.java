@@ -50,19 +50,22 @@ final class Texts {
         return text.append("person 0 8 99;".repeat(8)).toString();
     }
 
-    /** All that can be seen of an object's state but for STATUS. */
+    /** All that can be seen of an object's state but for STATUS; of a full shire by some 110 of the 512 calls that it is promised for. */
     static String state(TurnPosts posts) {
         StringBuilder all = new StringBuilder("fault " + posts.fault());
         for (int what = 0; what <= 11; what++) {
             all.append(' ').append(posts.count(what));
         }
-        for (int crossing = 0; crossing < posts.count(0); crossing++) {
+        int crossings = posts.count(0);
+        for (int crossing = 0; crossing < crossings; crossing++) {
             all.append(" | ").append(posts.crossing(crossing, 3)).append(' ').append(posts.crossing(crossing, 4)).append(' ');
-            for (int road = 0; road < posts.crossing(crossing, 2); road++) {
+            int roads = posts.crossing(crossing, 2);
+            for (int road = 0; road < roads; road++) {
                 all.append(posts.road(crossing, road, 1));
             }
         }
-        for (int person = 0; person < posts.count(1); person++) {
+        int people = posts.count(1);
+        for (int person = 0; person < people; person++) {
             all.append(" / ").append(posts.person(person, 0)).append(' ').append(posts.person(person, 2));
         }
         return all.toString();
