@@ -1649,42 +1649,25 @@ public final class TurnPosts {
                 at++;
             }
             start = at;
-            if (at >= length) {
-                kind = END;
-            } else if (isLetter(text[at])) {
-                kind = WORD;
-                passWord();
-            } else if (isDigit(text[at])) {
-                kind = NUMBER;
-                passNumber();
-            } else {
-                kind = ";()+-*/<=".indexOf((char) text[at]) >= 0 ? text[at] : NO_TOKEN;
-                at++;
-            }
-        }
-
-        private void passWord() {
-            while (at < length && isLetter(text[at])) {
-                at++;
-            }
-        }
-
-        private void passNumber() {
             number = 0;
-            while (at < length && isDigit(text[at])) {
-                if (at - start < MOST_DIGITS) {
+            kind = at < length ? kindOf(text[at]) : END;
+            int most = kind == WORD || kind == NUMBER ? length : Math.min(length, at + 1);
+            while (at < most && kindOf(text[at]) == kind) {
+                if (kind == NUMBER && at - start < MOST_DIGITS) {
                     number = number * 10 + text[at] - '0';
                 }
                 at++;
             }
         }
 
-        private static boolean isLetter(int sign) {
-            return sign >= 'a' && sign <= 'z';
-        }
-
-        private static boolean isDigit(int sign) {
-            return sign >= '0' && sign <= '9';
+        private static int kindOf(int sign) {
+            if (sign >= 'a' && sign <= 'z') {
+                return WORD;
+            }
+            if (sign >= '0' && sign <= '9') {
+                return NUMBER;
+            }
+            return ";()+-*/<=".indexOf((char) sign) >= 0 ? sign : NO_TOKEN;
         }
 
         private boolean isTooLong() {
