@@ -9,6 +9,8 @@ import java.util.Arrays;
 import java.util.List;
 import java.util.Set;
 import java.util.TreeSet;
+import java.util.regex.Matcher;
+import java.util.regex.Pattern;
 import java.util.stream.Collectors;
 
 /** The face is the document's, to the word; and what LANGUAGE.md says of members and words that can be seen at once. */
@@ -21,6 +23,8 @@ final class FaceTest {
         face();
         members();
         words();
+        library();
+        lengths();
         CHECK.end("FaceTest");
     }
 
@@ -103,6 +107,32 @@ final class FaceTest {
         }
         for (String line : Files.readAllLines(SOURCE)) {
             CHECK.due("a sign beyond 127 in " + line, line.chars().anyMatch(c -> c > 126), false);
+        }
+    }
+
+    /** Calls of a library's class by its name: only those that LANGUAGE.md lists and the class needs. */
+    private static void library() throws Exception {
+        String source = Files.readString(SOURCE).replaceAll("//.*|(?s)/\\*.*?\\*/", "");
+        Set<String> listed = Set.of("Integer.bitCount", "Math.max", "Math.min", "Arrays.fill", "System.arraycopy");
+        Matcher call = Pattern.compile("\\b(Integer|Long|Math|Arrays|System|String|Character|List|Objects)\\.(\\w+)").matcher(source);
+        while (call.find()) {
+            CHECK.due("of the library " + call.group(), listed.contains(call.group()), true);
+        }
+        Matcher imported = Pattern.compile("import ([\\w.]+)").matcher(source);
+        while (imported.find()) {
+            CHECK.due("imported " + imported.group(1), Set.of("java.util.Arrays", "java.util.NoSuchElementException").contains(imported.group(1)), true);
+        }
+    }
+
+    private static void lengths() throws Exception {
+        List<String> lines = Files.readAllLines(SOURCE);
+        for (int from = 0; from < lines.size(); from++) {
+            String line = lines.get(from);
+            if (line.matches(" +(public|private) .*\\(.*\\{") && !line.contains("class ")) {
+                String end = " ".repeat(line.length() - line.stripLeading().length()) + "}";
+                int length = lines.subList(from, lines.size()).indexOf(end) + 1;
+                CHECK.due("a method of at most sixty lines: " + line.trim(), length > 0 && length <= 60, true);
+            }
         }
     }
 }

@@ -104,6 +104,33 @@ final class ModelTest {
         return String.join("", lines);
     }
 
+    /** Nobody at home at first, roads from everywhere: most calls have something to find. */
+    private String rich() {
+        int crossings = 3 + below(7);
+        int most = below(3) * 2;
+        StringBuilder text = new StringBuilder();
+        for (int i = 0; i < crossings; i++) {
+            text.append("crossing ").append(below(most + 1)).append(' ').append(below(2)).append(';');
+        }
+        for (int from = 0; from < crossings; from++) {
+            for (int roads = 1 + below(3); roads > 0; roads--) {
+                text.append("road ").append(from).append(' ').append((from + 1 + below(crossings - 1)) % crossings).append(';');
+            }
+        }
+        for (int people = 1 + below(8); people > 0; people--) {
+            int where = below(oneIn(3) ? 1 : crossings);
+            text.append("person ").append(where).append(' ').append((where + 1 + below(crossings - 1)) % crossings);
+            text.append(' ').append(oneIn(2) ? 99 : below(20)).append(';');
+        }
+        if (oneIn(3)) {
+            text.append("heeds ").append(rule()).append(';');
+        }
+        if (oneIn(3)) {
+            text.append("turns ").append(rule()).append(';');
+        }
+        return text.toString();
+    }
+
     private String spoil(String text) {
         StringBuilder spoilt = new StringBuilder(text);
         for (int i = 1 + below(2); i > 0; i--) {
@@ -197,7 +224,7 @@ final class ModelTest {
             calls(6);
         }
         for (int shires = 1 + below(2); shires > 0; shires--) {
-            read(oneIn(8) ? spoil(text()) : text());
+            read(oneIn(8) ? spoil(text()) : oneIn(2) ? text() : rich());
             calls(40);
         }
     }
